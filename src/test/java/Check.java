@@ -1,0 +1,90 @@
+import java.util.NoSuchElementException;
+
+/** Counts answers that are not as due; each test's main ends by Check.end(). */
+final class Check {
+    /** What stands for an exception where answers are compared as numbers. */
+    static final long NO_SUCH = Long.MIN_VALUE;
+    static final long NOT_AS_TOLD = Long.MIN_VALUE + 1;
+    static final long OTHER = Long.MIN_VALUE + 2;
+
+    interface Call {
+        long answer();
+    }
+
+    private static int wrong = 0;
+    private static int asked = 0;
+
+    private Check() {
+    }
+
+    static void due(String call, long got, long want) {
+        asked++;
+        if (got != want) {
+            wrong++;
+            System.out.println(call + " answered " + told(got) + ", due is " + told(want));
+        }
+    }
+
+    static void due(String call, boolean got, boolean want) {
+        due(call, got ? 1 : 0, want ? 1 : 0);
+    }
+
+    static void noSuch(String call, Call made) {
+        due(call, answer(made), NO_SUCH);
+    }
+
+    static void notAsTold(String call, Call made) {
+        due(call, answer(made), NOT_AS_TOLD);
+    }
+
+    static long answer(Call made) {
+        try {
+            return made.answer();
+        } catch (NoSuchElementException e) {
+            return NO_SUCH;
+        } catch (IllegalArgumentException e) {
+            return NOT_AS_TOLD;
+        } catch (RuntimeException e) {
+            System.out.println(e);
+            return OTHER;
+        }
+    }
+
+    /** Feeds a text and has a gate read it. */
+    static int gate(GateBox x, int gate, String text) {
+        feed(x, text);
+        return x.gate(gate, text.length());
+    }
+
+    static void feed(GateBox x, String text) {
+        for (int i = 0; i < text.length(); i += 20) {
+            x.feed(four(text, i), four(text, i + 4), four(text, i + 8), four(text, i + 12), four(text, i + 16));
+        }
+    }
+
+    static GateBox made(String text) {
+        GateBox x = new GateBox();
+        due("a text without a fault: " + text, gate(x, 0, text), 0);
+        return x;
+    }
+
+    static void end() {
+        System.out.println(asked + " answers, " + wrong + " not as due");
+        if (wrong > 0) {
+            System.exit(1);
+        }
+    }
+
+    private static int four(String text, int from) {
+        int four = 0;
+        for (int i = from; i < from + 4; i++) {
+            four = four << 8 | (i < text.length() ? text.charAt(i) & 255 : ' ');
+        }
+        return four;
+    }
+
+    private static String told(long answer) {
+        return answer == NO_SUCH ? "NoSuchElementException" : answer == NOT_AS_TOLD ? "IllegalArgumentException"
+                : answer == OTHER ? "another exception" : Long.toString(answer);
+    }
+}
