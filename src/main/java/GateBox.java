@@ -211,6 +211,9 @@ public final class GateBox {
         trial.becomeLike(asked.rules.setting);
         for (int card = 0; card < CARDS; card++) {
             trial.card = card - 1;
+            if (asked.rules.lesserCardIsLike(trial)) {
+                continue;
+            }
             giver.begin(asked.rules, trial);
             walk.begin(asked.book.seed);
             walk.go(n);
@@ -604,10 +607,14 @@ public final class GateBox {
 
         /** Spares trying SETTINGS that differ from a lesser one only in what no EXPR asks for. */
         boolean lesserIsLike(Setting other) {
-            boolean cardIsLike = other.card > 0 && !asks(CARD) || other.card == 0 && !asks(SIGN);
             boolean keeperIsLike = other.keeper == 1 && !asks(KEEPER);
             boolean glassIsLike = other.glass == 1 && !asks(GLASS) && !asks(LAST) && !asks(MEAN);
-            return cardIsLike || keeperIsLike || glassIsLike;
+            return lesserCardIsLike(other) || keeperIsLike || glassIsLike;
+        }
+
+        /** A CARD with the number 0 is as none but for its sign, another one but for its number. */
+        boolean lesserCardIsLike(Setting other) {
+            return other.card > 0 && !asks(CARD) || other.card == 0 && !asks(SIGN);
         }
 
         private boolean asks(int value) {
@@ -1079,32 +1086,35 @@ public final class GateBox {
             int place = (spent * MOST_SORTS + sort) * MOST_STATES + seen;
             int gift = at(known, place);
             if (gift == UNKNOWN) {
-                gift = reckoned(sort, seen, spent);
+                look(sort, seen, spent);
+                gift = kept(worked(at(rules.begin, sort), at(rules.begin, sort + 1)));
                 put(known, place, gift);
             }
             return gift;
         }
 
-        private int reckoned(int sort, int seen, int spent) {
-            int worth = at(rules.worth, sort);
-            int full = at(rules.purse, sort);
-            int purse = full > spent ? full - spent : 0;
-            int least = setting.least;
-            put(values, WORTH, worth);
-            put(values, PURSE, purse);
+        private void look(int sort, int seen, int spent) {
+            int purse = at(rules.purse, sort) - spent;
+            put(values, WORTH, at(rules.worth, sort));
+            put(values, PURSE, purse < 0 ? 0 : purse);
             put(values, LAST, seen % 10);
             put(values, MEAN, rules.meanOf(seen));
             put(values, CARD, setting.card == NONE ? 0 : setting.card);
             put(values, SIGN, setting.card == NONE ? 0 : 1);
             put(values, KEEPER, setting.keeper);
             put(values, GLASS, setting.glass);
-            put(values, LEAST, least);
-            int gift = worked(at(rules.begin, sort), at(rules.begin, sort + 1));
-            gift = gift < 0 ? 0 : gift > purse ? purse : gift;
+            put(values, LEAST, setting.least);
+        }
+
+        /** What becomes of a wish to give so much. */
+        private int kept(int wish) {
+            int purse = at(values, PURSE);
+            int least = setting.least;
+            int gift = wish < 0 ? 0 : wish > purse ? purse : wish;
             if (gift >= least) {
                 return gift;
             }
-            return worth >= least && purse >= least ? least : NONE;
+            return at(values, WORTH) >= least && purse >= least ? least : NONE;
         }
 
         private int worked(int from, int to) {
@@ -1168,6 +1178,19 @@ public final class GateBox {
             put(amounts, state, there + amount);
         }
 
+        boolean isLike(Cases other) {
+            if (size != other.size) {
+                return false;
+            }
+            for (int i = 0; i < size; i++) {
+                int state = at(places, i);
+                if (amountOf(state) != other.amountOf(state)) {
+                    return false;
+                }
+            }
+            return true;
+        }
+
         int placeOf(int i) {
             return at(places, i);
         }
@@ -1197,15 +1220,16 @@ public final class GateBox {
         }
 
         void go(int persons) {
-            for (int person = 0; person < persons && giver.rules.sorts > 0; person++) {
-                then.clear();
-                for (int i = 0; i < now.size; i++) {
-                    int state = now.placeOf(i);
-                    share(state, now.amountOf(state));
+            for (int person = 1; person <= persons && giver.rules.sorts > 0; person++) {
+                long givenBefore = given;
+                long awayBefore = away;
+                comesOne();
+                if (now.isLike(then)) {
+                    // All who are still to come find the CASES that this one found, and do as he did.
+                    given += (persons - person) * (given - givenBefore);
+                    away += (persons - person) * (away - awayBefore);
+                    return;
                 }
-                Cases old = now;
-                now = then;
-                then = old;
             }
         }
 
@@ -1223,7 +1247,18 @@ public final class GateBox {
             return (int) (away / MILLION);
         }
 
-        private void share(int state, int amount) {
+        private void comesOne() {
+            then.clear();
+            for (int i = 0; i < now.size; i++) {
+                share(now.placeOf(i));
+            }
+            Cases old = now;
+            now = then;
+            then = old;
+        }
+
+        private void share(int state) {
+            int amount = now.amountOf(state);
             Rules rules = giver.rules;
             int left = amount;
             for (int sort = 0; sort < rules.sorts; sort++) {
