@@ -766,7 +766,6 @@ public final class GateBox {
             end = 0;
             told = 0;
             fault = 0;
-            place = NONE;
             fed = 0;
             rules.clear();
             advance();

@@ -17,6 +17,7 @@ final class BestTest {
         Check.due("would(0, 31, 1)", x.would(0, 31, 1), 2500);
         Check.due("would(0, 88 + 32, 1)", x.would(0, 120, 1), 3500);
         Check.due("would(0, 132 + 32, 1)", x.would(0, 164, 1), 2500);
+        Check.due("nobody: would", x.would(0, 120, 0), 0);
         Check.due("best: least 2, keeper, card 9", x.best(0, 1, 0, 0), 120);
         Check.due("its coin", x.best(0, 1, 0, 1), 3500);
         Check.due("best of 60", x.best(0, 60, 999999, 1), 210000);
@@ -50,6 +51,10 @@ final class BestTest {
         Check.due("without sorts", z.card(1, 60), 0);
         GateBox w = Check.made("sort 1 worth 9 purse 9 gives card*glass+keeper*(card=2)*9;keeper;least 8;");
         Check.due("keeper, glass and least as they are", w.card(0, 1), 3);
+        GateBox u = Check.made("sort 1 worth 9 purse 9 gives (glass=0)*(card=1)+glass*(card=7)+last;glass;");
+        Check.due("the glass as it is", u.card(0, 2), 8);
+        GateBox t = Check.made("sort 1 worth 9 purse 9 gives 0;sort 1 worth 9 purse 9 gives sign-(card=0);");
+        Check.due("its number and its sign", t.card(0, 3), 2);
         GateBox v = Check.made("sort 1 worth 9 purse 9 gives 1+sign;");
         Check.due("the sign alone", v.card(0, 1), 1);
     }

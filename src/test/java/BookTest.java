@@ -33,6 +33,10 @@ final class BookTest {
         Check.due("the state ahead of it", x.given(0, 199, 1), 89);
         Check.due("who gives 3", x.given(0, 2, 2), 1);
         Check.due("who gives 4", x.given(0, 3, 2), 0);
+        Check.due("the other book: who", x.strange(1), 1);
+        Check.due("perhaps", x.who(0, 0, 1), 20);
+        Check.due("the other book: given", x.given(1, 0, 2), 0);
+        Check.due("fewest", x.fewest(0), 1);
     }
 
     private static void explained() {
@@ -91,6 +95,9 @@ final class BookTest {
         }
         Check.due("guess(0, 3, 0, 99)", x.guess(0, 3, 0, 99), true);
         Check.due("told alone", x.credit(0, 3), 1000000);
+        Check.due("odds of 1", x.guess(0, 2, 1, 1), true);
+        Check.due("odds of 1 are told", x.credit(0, 2), 500000);
+        Check.due("odds of 0", x.guess(0, 2, 1, 0), true);
         Check.due("guess(0, 1, 0, 1)", x.guess(0, 1, 0, 1), true);
         Check.due("guess(0, 1, 1, 1)", x.guess(0, 1, 1, 1), true);
         Check.due("guess(0, 1, 2, 1)", x.guess(0, 1, 2, 1), true);

@@ -63,6 +63,12 @@ final class CasesTest {
         Check.due("turn(0, MAX)", x.turn(0, Integer.MAX_VALUE), 1);
         Check.due("turn(1, 1) without sorts", x.turn(1, 1), 1);
         Check.due("drift(1, 1) without sorts", x.drift(1, 1), 0);
+        GateBox y = Check.made("sort 99 worth 9 purse 9 gives last;sort 1 worth 9 purse 9 gives 0;glass;");
+        y.seed(0, 9);
+        Check.due("drift(0, 399)", y.drift(0, 399), 163);
+        Check.due("drift(0, 400)", y.drift(0, 400), 161);
+        Check.due("the last of 400", y.turn(0, 162), 400);
+        Check.due("none of 400", y.turn(0, 161), -1);
         Check.due("cases(1, 400, 0) without sorts", x.cases(1, 400, 0), 1000000000);
     }
 
@@ -103,6 +109,27 @@ final class CasesTest {
         Check.due("least", x.rest(0, 0, 0), 66);
         Check.due("size: 66 69 96 99", x.rest(0, 0, 1), 4);
         Check.due("mean", x.rest(0, 0, 2), 7500);
+        // it seldom goes from 0 to 9 or back: the mean is that of the later 200 of 400
+        GateBox z = Check.made("sort 1 worth 9 purse 9 gives 9-last;sort 99 worth 9 purse 9 gives last;glass;");
+        z.seed(0, 9);
+        Check.due("0 and 9 by way of one another", z.rest(0, 0, 1), 2);
+        Check.due("slow mean", z.rest(0, 0, 2), 4480);
+        // states 63 and 64 are no rest of the other, nor is what an earlier call found
+        x.seed(0, 0);
+        Check.due("again", x.rest(0, 0, 1), 4);
+        Check.due("a gate with states 46 and 64", Check.gate(x, 0, "sort 1 worth 9 purse 9 gives 10-last;sight 2;glass;"), 0);
+        x.seed(0, 4);
+        Check.due("46 64: how many", x.rest(0, -1, 0), 1);
+        Check.due("46 64: least", x.rest(0, 0, 0), 46);
+        Check.due("46 64: size", x.rest(0, 0, 1), 2);
+        Check.due("a gate with states 36 and 63", Check.gate(x, 0, "sort 1 worth 9 purse 9 gives 9-last;sight 2;glass;"), 0);
+        x.seed(0, 3);
+        Check.due("36 63: least", x.rest(0, 0, 0), 36);
+        Check.due("36 63: size", x.rest(0, 0, 1), 2);
+        Check.due("five ways through 0", Check.gate(x, 0, "sort 1 worth 9 purse 9 gives (last=0)*7;"
+                + "sort 1 worth 9 purse 9 gives (last=0)*3;sort 1 worth 9 purse 9 gives (last=0);glass;"), 0);
+        Check.due("from 0: least", x.rest(0, 0, 0), 0);
+        Check.due("from 0: size", x.rest(0, 0, 1), 4);
         GateBox y = Check.made("sort 1 worth 2 purse 9 gives 1;least 3;sight 2;");
         y.seed(0, 71);
         Check.due("all kept away: least", y.rest(0, 0, 0), 71);

@@ -153,6 +153,11 @@ final class DrawnTest {
         x.guess(0, 2, 0, 1);
         x.guess(0, 2, 0, -1);
         x.set(0, 12);
+        x.give(1, 5);
+        x.seed(0, 0);
+        for (int i = 0; i < 20; i++) {
+            x.give(0, 9);
+        }
         Check.due("a fault", Check.gate(x, 0, "x"), 1);
         Check.feed(x, "keeper;");
         for (int k = 0; k < 2; k++) {
@@ -160,6 +165,9 @@ final class DrawnTest {
             int[] due = {1, 2, 0, 0, 1, 0, 100, 30, 1, 3, 13, 12, 40, 44};
             for (int what = 0; what < due.length; what++) {
                 Check.due("about(0, " + what + ") restored", x.about(0, what), due[what]);
+            }
+            for (int i = 0; i < 13; i++) {
+                Check.due("gift " + i + " restored", x.given(0, i, 0), 4);
             }
             Check.due("the other gate's seed", x.about(1, 9), 0);
             Check.due("the other gate's book", x.given(1, 0, 0), 7);

@@ -38,6 +38,16 @@ final class NearTest {
         Check.due("gate 1", Check.gate(x, 1, "sort 1 worth 9 purse 9 gives mean+1;sight 2;glass;"), 0);
         x.seed(0, 2);
         x.seed(1, 24);
+        GateBox y = Check.made("sort 1 worth 9 purse 9 gives last+1;glass;");
+        Check.due("gate 1", Check.gate(y, 1, "sort 1 worth 9 purse 9 gives purse;sight 0;"), 0);
+        int second = 0;
+        int first = 0;
+        for (int n = 1; n < 13; n++) {
+            int gift = n < 9 ? n : 9;
+            first += 1000 * gift;
+            second += 1000 * (9 - gift);
+            near(y, n, first, second, 0);
+        }
         // gate 0: 3 4 5; gate 1: (2+4)/2+1=4, (4+4)/2+1=5 of 5 left, (4+5)/2+1=5 of 4 left
         near(x, 1, 3000, 4000, 0);
         near(x, 2, 7000, 9000, 0);

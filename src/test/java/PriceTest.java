@@ -34,6 +34,9 @@ final class PriceTest {
         GateBox y = Check.made("sort 1 worth 2 purse 2 gives 0;sort 1 worth 4 purse 4 gives 0;");
         Check.due("2 by all is like 4 by half", y.price(0, 2, 0), y.price(0, 4, 0));
         Check.due("of like ones the least", y.priced(0), 2);
+        GateBox w = Check.made("sort 1 worth 1 purse 9 gives 0;");
+        Check.due("a price of 1", w.priced(0), 1);
+        Check.due("a price of nothing", w.mixed(0, 2, 2, 0), 0);
         GateBox z = Check.made("sort 1 worth 9 purse 9 gives 0;");
         Check.due("the dearest", z.priced(0), 9);
         Check.due("thousands", z.price(0, 9, 0), 9000);

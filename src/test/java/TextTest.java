@@ -104,6 +104,8 @@ final class TextTest {
         at("not sort;", 3, 4);
         at("(gives);", 3, 1);
         at("worthy;", 3, 0);
+        at("zz;", 3, 0);
+        at("abz;", 3, 0);
     }
 
     private static void toldAlready() {
@@ -138,7 +140,20 @@ final class TextTest {
         Check.due("status", x.count(1), 1);
         Check.due("the image stays", x.restore(), true);
 
+        x.drawn(0, 3, 1);
+        x.guess(0, 0, 0, 1);
+        Check.due("a text with all clauses", Check.gate(x, 0, SORT + "2;card 4;least 1;sight 2;thief 7 8;keeper;"), 0);
+        Check.due("its box is empty", x.about(0, 11), 0);
+        x.drawn(0, 400, 1);
+        Check.due("some was stolen", x.about(0, 12) > 0, true);
+        x.seed(0, 44);
+        x.give(0, 4);
+        x.image();
         Check.due("another text", Check.gate(x, 0, "glass;"), 0);
+        int[] due = {0, 1, -1, 0, 1, 0, 0, 100, 0, 0, 0, 0, 0, 0};
+        for (int what = 0; what < due.length; what++) {
+            Check.due("all anew: about(0, " + what + ")", x.about(0, what), due[what]);
+        }
         Check.due("fault() is none", x.fault(), -1);
         Check.due("all anew: sorts", x.about(0, 0), 0);
         Check.due("all anew: card", x.about(0, 2), -1);
