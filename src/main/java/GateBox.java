@@ -594,15 +594,9 @@ public final class GateBox {
             return allOdds > 0 ? 1000 * some / allOdds : 0;
         }
 
-        /** Billionths that one person asked for a PRICE gives; each SORT's part is cut down by itself. */
+        /** Billionths that one person asked for a PRICE gives: the ODDS of all who pay are cut down together. */
         long partsAt(int price) {
-            long parts = 0;
-            for (int sort = 0; sort < sorts && allOdds > 0; sort++) {
-                if (pays(sort, price)) {
-                    parts += (long) ALL_CASES * at(odds, sort) / allOdds * price;
-                }
-            }
-            return parts;
+            return allOdds > 0 ? (long) ALL_CASES * payingOdds(price) / allOdds * price : 0;
         }
 
         /** Spares trying SETTINGS that differ from a lesser one only in what no EXPR asks for. */

@@ -594,15 +594,14 @@ public final class Model {
         range(n, 0, 400);
         range(each, 2, 50);
         range(price, 0, 9);
+        long paying = r.sorts.stream().filter(s -> Math.min(s.worth(), s.purse()) >= price).mapToInt(Sort::odds).sum();
         long given = 0;
         int free = 0;
         for (int k = 1; k <= n; k++) {
             if (k % each != 0) {
                 free++;
-                continue;
-            }
-            for (Sort s : r.sorts) {
-                given += s.worth() >= price && s.purse() >= price ? ALL * s.odds() / r.all() * price : 0;
+            } else if (paying > 0) {
+                given += ALL * paying / r.all() * price;
             }
         }
         return (int) ((given + run(gate, free).given) / 1_000_000);

@@ -54,9 +54,15 @@ final class PriceTest {
         Check.due("one is asked", x.mixed(0, 50, 50, 3), x.coin(0, 49, 0) + 3000);
         Check.due("nobody", x.mixed(0, 0, 2, 3), 0);
         Check.due("without sorts", x.mixed(1, 400, 2, 9), 0);
-        // of each sort that pays its part is cut down by itself
-        GateBox y = Check.made("sort 1 worth 9 purse 9 gives 0;sort 1 worth 9 purse 9 gives 0;sort 1 worth 9 purse 9 gives 0;");
-        Check.due("three thirds", y.mixed(0, 2, 2, 3), 2999);
+        // the odds of all who pay are cut down together, and ahead of the price
+        String nothing = " purse 9 gives 0;";
+        GateBox y = Check.made("sort 1 worth 9" + nothing + "sort 1 worth 9" + nothing + "sort 1 worth 3" + nothing);
+        Check.due("three thirds", y.mixed(0, 2, 2, 3), 3000);
+        Check.due("two thirds, cut down ahead of the price", y.mixed(0, 2, 2, 9), 5999);
+        Check.due("so by each who is asked", y.mixed(0, 400, 2, 9), 1199999);
+        GateBox z = Check.made("sort 1 worth 9" + nothing + "sort 2 worth 9" + nothing + "sort 3 worth 1" + nothing);
+        Check.due("a sixth and two are a half", z.mixed(0, 2, 2, 8), 4000);
+        Check.due("each pays 1", z.mixed(0, 400, 2, 1), 200000);
     }
 
     private static void refusals() {
