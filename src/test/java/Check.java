@@ -13,20 +13,32 @@ final class Check {
 
     private static int wrong = 0;
     private static int asked = 0;
+    private static int sentences = 0;
+    private static String sentence = "";
 
     private Check() {
+    }
+
+    /** What follows, until the next one, tests this sentence of the document. */
+    static void sentence(String text) {
+        sentences++;
+        sentence = "\"" + text + "\": ";
     }
 
     static void due(String call, long got, long want) {
         asked++;
         if (got != want) {
             wrong++;
-            System.out.println(call + " answered " + told(got) + ", due is " + told(want));
+            System.out.println(sentence + call + " answered " + told(got) + ", due is " + told(want));
         }
     }
 
     static void due(String call, boolean got, boolean want) {
         due(call, got ? 1 : 0, want ? 1 : 0);
+    }
+
+    static void due(String call, String got, String want) {
+        due(call + ": " + got + " beside " + want, got.equals(want), true);
     }
 
     static void noSuch(String call, Call made) {
@@ -69,10 +81,34 @@ final class Check {
     }
 
     static void end() {
-        System.out.println(asked + " answers, " + wrong + " not as due");
+        System.out.println((sentences > 0 ? sentences + " sentences, " : "") + asked + " answers, " + wrong + " not as due");
         if (wrong > 0) {
             System.exit(1);
         }
+    }
+
+    /** All that an object tells of itself, so that what a call changed, or didn't, can be seen; some 80 calls. */
+    static String seen(GateBox x) {
+        StringBuilder seen = new StringBuilder();
+        seen.append("fault ").append(x.fault()).append(" count");
+        for (int what = 0; what < 4; what++) {
+            seen.append(" ").append(x.count(what));
+        }
+        for (int gate = 0; gate < 2; gate++) {
+            seen.append("; gate ").append(gate);
+            for (int what = 0; what < 14; what++) {
+                seen.append(" ").append(x.about(gate, what));
+            }
+            for (int guess = 0; guess < 4; guess++) {
+                seen.append(" ").append(x.credit(gate, guess));
+            }
+            seen.append(" book");
+            for (int i = 0; i < x.about(gate, 10) && i < 5; i++) {
+                seen.append(" ").append(x.given(gate, i, 0)).append("/").append(x.given(gate, i, 2));
+            }
+            seen.append(" coin ").append(x.coin(gate, 2, 0)).append(" ").append(x.coin(gate, 2, 1));
+        }
+        return seen.toString();
     }
 
     private static int four(String text, int from) {
