@@ -551,6 +551,8 @@ final class EdgesBookTest {
         x.image();
         for (int gate = 0; gate < 2; gate++) {
             x.seed(gate, 90);
+            x.give(gate, 9);
+            x.give(gate, 2);
             x.drawn(gate, 25, 1);
             x.empty(gate);
             x.drawn(gate, 1, 1);

@@ -6,6 +6,7 @@ final class EdgesCasesTest {
         states();
         seedIsBelow();
         atFirstAllAtTheSeed();
+        notTheStateNow();
         partsAreCutDown();
         theLastTakesWhatIsLeft();
         greatOdds();
@@ -70,6 +71,45 @@ final class EdgesCasesTest {
             Check.due("cases(0, 0, " + state + ")", x.cases(0, 0, state), state == 99 ? ALL : 0);
             Check.due("cases(0, 1, " + state + ")", x.cases(0, 1, state), state == 95 ? ALL : 0);
         }
+    }
+
+    /** A book goes on to another state, an image keeps another seed: all that is reckoned begins at the seed that is told. */
+    private static void notTheStateNow() {
+        Check.sentence("SEED: the STATE at first");
+        GateBox x = Check.made(sort(1, "last") + "glass;");
+        Check.due("the other gate", Check.gate(x, 1, sort(1, "last") + "glass;"), 0);
+        x.seed(0, 2);
+        x.seed(1, 1);
+        x.image();
+        x.seed(0, 7);
+        x.seed(1, 2);
+        x.give(0, 4);
+        x.give(1, 0);
+        Check.due("the state now", x.about(0, 13), 4);
+        Check.due("coin", x.coin(0, 1, 0), 7000);
+        Check.due("cases", x.cases(0, 3, 7), ALL);
+        Check.due("drift", x.drift(0, 400), 7000);
+        Check.due("turn", x.turn(0, 7000), -1);
+        Check.due("turn", x.turn(0, 7001), 1);
+        Check.due("rest", x.rest(0, 0, 0), 7);
+        Check.due("mean", x.rest(0, 0, 2), 7000);
+        Check.due("best", x.best(0, 1, 0, 0), 11);
+        Check.due("its coin", x.best(0, 1, 0, 1), 7000);
+        Check.due("would", x.would(0, 11, 2), 14000);
+        Check.due("sooner", x.price(0, 7, 1), 0);
+        Check.due("sooner", x.price(0, 8, 1), 1000);
+        Check.due("mixed", x.mixed(0, 2, 2, 1), 8000);
+        Check.due("near at 0", x.near(1, 0), 7000);
+        Check.due("near at 1, of the 2 that 7 leave", x.near(1, 1), 2000);
+        Check.due("the state ahead of the first gift", x.given(0, 0, 1), 7);
+        GateBox y = Check.made(sort(1, "(last=2)*(card=3)*sign+(last=7)*(card=5)*sign+(last=4)*(card=6)*sign") + "glass;");
+        y.seed(0, 2);
+        y.image();
+        y.seed(0, 7);
+        y.give(0, 4);
+        Check.due("card", y.card(0, 1), 6);
+        y.restore();
+        Check.due("card", y.card(0, 1), 4);
     }
 
     private static void partsAreCutDown() {
@@ -224,6 +264,13 @@ final class EdgesCasesTest {
         Check.due("all are kept away: the seed alone", y.rest(0, 0, 0), 99);
         Check.due("its size", y.rest(0, 0, 1), 1);
         Check.due("its mean", y.rest(0, 0, 2), 0);
+        // what an earlier call found is forgotten: 9 and 99 without a glass, 0 with it
+        GateBox v = Check.made(sort(1, "9*(glass=0)") + "sight 2;");
+        Check.due("without a glass", v.rest(0, 0, 0), 99);
+        Check.due("its size", v.rest(0, 0, 1), 1);
+        v.set(0, 11);
+        Check.due("with it", v.rest(0, 0, 0), 0);
+        Check.due("its size", v.rest(0, 0, 1), 1);
         GateBox z = Check.made("sight 2;");
         z.seed(0, 64);
         Check.due("without sorts one", z.rest(0, -1, 0), 1);

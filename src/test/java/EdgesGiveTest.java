@@ -9,6 +9,7 @@ final class EdgesGiveTest {
         cutDownToZero();
         byZero();
         oneOrZero();
+        worthAndPurse();
         last();
         mean();
         withoutGlassOrSight();
@@ -97,6 +98,16 @@ final class EdgesGiveTest {
         for (String expr : fail) {
             gives(expr, 0);
             gives("3*(" + expr + ")+2", 2);
+        }
+    }
+
+    private static void worthAndPurse() {
+        Check.sentence("VALUES: 'worth', 'purse' (of the SORT)");
+        GateBox x = Check.made("sort 1 worth 99 purse 9 gives worth=99;sort 1 worth 5 purse 8 gives worth;sort 1 worth 5 purse 8 gives purse;"
+                + "sort 1 worth 0 purse 9 gives worth+1;sort 1 worth 9 purse 0 gives purse+1;sort 1 worth 3 purse 9 gives worth*2+purse/9;");
+        int[] due = {1, 5, 8, 1, 0, 7};
+        for (int sort = 0; sort < due.length; sort++) {
+            Check.due("sort " + sort, x.gives(0, sort, 0), due[sort]);
         }
     }
 

@@ -133,6 +133,7 @@ final class EdgesSettingTest {
         }
         Check.due("none has a number above 9", Check.made(sort("9*(9<card)")).card(0, 1), 0);
         Check.due("none", Check.made(sort("1-sign") + "card 5;").card(0, 1), 0);
+        Check.due("any", Check.made(sort("1+sign") + "card 5;").card(0, 1), 1);
         Check.due("all alike", Check.made(sort("1") + "card 5;").card(0, 60), 0);
         Check.due("nobody comes", Check.made(sort("card")).card(0, 0), 0);
         Check.due("the keeper is there", Check.made(sort("keeper*(card=4)+(card=6)*(keeper=0)") + "keeper;").card(0, 1), 5);
@@ -210,6 +211,7 @@ final class EdgesSettingTest {
         soonerOf(rich + "3;", 4, 1000, "gives less");
         soonerOf(rich + "0;", 0, 0, "no price");
         soonerOf("sort 1 worth 3 purse 9 gives 9;", 4, 1000, "it isn't worth it to him, though he gives more");
+        soonerOf("sort 1 worth 5 purse 9 gives 9;", 4, 0, "it is worth the price, not what he gives");
         soonerOf("sort 1 worth 9 purse 4 gives 4;", 4, 0, "he can pay it");
         soonerOf("sort 1 worth 9 purse 3 gives 3;", 4, 1000, "he can't pay it");
         soonerOf("sort 1 worth 3 purse 9 gives 3;least 4;", 5, 0, "he is kept away now");
@@ -293,6 +295,10 @@ final class EdgesSettingTest {
         Check.gate(x, 1, "sort 1 worth 0 purse 9 gives 0;least 1;");
         Check.due("kept away at both", x.near(3, 2), 3000);
         Check.due("the states stay", x.near(3, 1), 0);
+        // 5 at first, then he is kept away at 0 and the 5 is seen again and again
+        GateBox y = Check.made("sort 1 worth 0 purse 9 gives 5*(last=3)+(last=0);glass;least 1;");
+        y.seed(0, 3);
+        Check.due("the state at 0 stays", y.near(4, 0), 5000);
     }
 
     private static void goesBy() {
@@ -306,6 +312,16 @@ final class EdgesSettingTest {
         Check.due("one there: kept away", x.near(2, 2), 0);
         Check.gate(x, 1, sort("4") + sort("5") + sort("6"));
         Check.due("three there, the third is nobody's", x.near(2, 1), 9000);
+        Check.gate(x, 1, sort("4") + "least 1;");
+        Check.due("who goes by isn't kept away by a least", x.near(2, 2), 0);
+        // nothing of who goes by, or of who is kept away there, is remembered
+        Check.gate(x, 1, sort("last") + "glass;");
+        x.seed(1, 7);
+        Check.due("7 by half", x.near(2, 1), 7000);
+        Check.gate(x, 1, sort("last") + "sort 1 worth 0 purse 9 gives 0;glass;least 1;");
+        x.seed(1, 7);
+        Check.due("7 by half", x.near(2, 1), 7000);
+        Check.due("the others are kept away", x.near(2, 2), 1000);
         GateBox y = new GateBox();
         Check.gate(y, 1, sort("4"));
         Check.due("nobody goes to gate 0", y.near(60, 1), 0);
@@ -318,6 +334,7 @@ final class EdgesSettingTest {
             GateBox x = Check.made(sort("4"));
             Check.gate(x, 1, "sort 1 worth 99 purse " + purse + " gives 9;");
             Check.due("a purse of " + purse + " there, 4 given", x.near(1, 1), 1000 * Math.max(0, purse - 4));
+            Check.due("an empty purse keeps nobody away", x.near(1, 2), 0);
             Check.gate(x, 1, "sort 1 worth 99 purse " + purse + " gives 0;least 3;");
             Check.due("a least of 3 there", x.near(1, 1), purse - 4 >= 3 ? 3000 : 0);
             Check.due("kept away by it", x.near(1, 2), purse - 4 >= 3 ? 0 : 1000);
@@ -344,9 +361,12 @@ final class EdgesSettingTest {
         GateBox x = Check.made(sort("4"));
         Check.gate(x, 1, sort("purse=5"));
         Check.due("purse is 5 there", x.near(1, 1), 1000);
+        // a purse of 3 less 9 is 0, and a gift of 0 is remembered
         GateBox y = Check.made(sort("9"));
-        Check.gate(y, 1, "sort 1 worth 99 purse 9 gives 5*(purse<0);");
-        Check.due("purse is never below 0", y.near(1, 1), 0);
+        Check.gate(y, 1, "sort 1 worth 99 purse 3 gives 0-purse;glass;");
+        y.seed(1, 3);
+        Check.due("nothing is left", y.near(60, 1), 0);
+        Check.due("purse is never below 0", y.near(60, 2), 0);
         GateBox z = Check.made(sort("9-7*(last=9)") + "glass;");
         Check.gate(z, 1, "sort 1 worth 99 purse 8 gives 5*(purse=6);");
         Check.due("purse 0, then 6: worth stays", z.near(2, 1), 5000);
@@ -379,6 +399,17 @@ final class EdgesSettingTest {
         y.seed(1, 99);
         Check.due("the seed of gate 0", y.near(1, 0), 3000);
         Check.due("the seed of gate 1", y.near(1, 1), 4000);
+        // each gate has its own sight
+        GateBox w = Check.made(sort("4-last") + "sight 0;glass;");
+        Check.gate(w, 1, sort("mean+1") + "sight 2;glass;");
+        w.seed(1, 24);
+        Check.due("at 0", w.near(3, 0), 12000);
+        Check.due("4, of 2 and 4, then 5, of 4 and 4, then 5, of 4 and 5", w.near(3, 1), 14000);
+        Check.gate(w, 0, sort("mean") + "sight 2;glass;");
+        Check.gate(w, 1, sort("9-last") + "glass;");
+        w.seed(0, 48);
+        Check.due("6, of 4 and 8, and 7, of 8 and 6", w.near(2, 0), 13000);
+        Check.due("3 of 3, and 2 of 2", w.near(2, 1), 5000);
         // the odds of gate 1 count for nothing
         GateBox z = Check.made("sort 1 worth 9 purse 9 gives 1;sort 3 worth 9 purse 9 gives 0;");
         Check.gate(z, 1, "sort 99 worth 9 purse 9 gives 0;sort 1 worth 9 purse 9 gives 4;");

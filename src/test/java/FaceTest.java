@@ -26,15 +26,13 @@ final class FaceTest {
         Set<String> due = new TreeSet<>();
         for (String line : Files.readAllLines(DOC)) {
             if (line.startsWith("    public ") && line.contains("(") && !line.contains("GateBox()")) {
-                String head = line.trim().split("\\(")[0];
-                String inside = line.substring(line.indexOf('(') + 1, line.indexOf(')'));
-                due.add(head + " " + (inside.isEmpty() ? 0 : inside.split(",").length));
+                due.add(line.trim().replaceAll(" [a-z]+([,)])", "$1"));
             }
         }
         Set<String> got = new TreeSet<>();
         for (Method m : GateBox.class.getDeclaredMethods()) {
             if (Modifier.isPublic(m.getModifiers())) {
-                got.add("public " + m.getReturnType() + " " + m.getName() + " " + m.getParameterCount());
+                got.add(told(m));
             } else {
                 Check.due("private: " + m.getName(), Modifier.isPrivate(m.getModifiers()), true);
             }
@@ -46,7 +44,26 @@ final class FaceTest {
         }
         Constructor<?>[] constructors = GateBox.class.getDeclaredConstructors();
         Check.due("constructors", constructors.length, 1);
+        Check.due("a public one", Modifier.isPublic(constructors[0].getModifiers()) && constructors[0].getParameterCount() == 0, true);
+        Check.due("a public class", Modifier.isPublic(GateBox.class.getModifiers()), true);
         Check.due("final", Modifier.isFinal(GateBox.class.getModifiers()), true);
+    }
+
+    /** A method as the document's face has it, without the names of what it takes. */
+    private static String told(Method m) {
+        StringBuilder told = new StringBuilder("public ").append(m.getReturnType()).append(" ").append(m.getName()).append("(");
+        String comma = "";
+        for (Class<?> type : m.getParameterTypes()) {
+            told.append(comma).append(type);
+            comma = ", ";
+        }
+        told.append(")");
+        comma = " throws ";
+        for (Class<?> type : m.getExceptionTypes()) {
+            told.append(comma).append(type.getSimpleName());
+            comma = ", ";
+        }
+        return told.append(";").toString();
     }
 
     private static void source() throws IOException {
