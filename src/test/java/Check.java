@@ -70,8 +70,32 @@ final class Check {
 
     static void feed(GateBox x, String text) {
         for (int i = 0; i < text.length(); i += 20) {
-            x.feed(four(text, i), four(text, i + 4), four(text, i + 8), four(text, i + 12), four(text, i + 16));
+            int[] f = five(text, i);
+            x.feed(f[0], f[1], f[2], f[3], f[4]);
         }
+    }
+
+    /** Twenty bytes of a text as feed() takes them; behind its end there are blanks. */
+    static int[] five(String text, int from) {
+        int[] five = new int[5];
+        for (int i = 0; i < 20; i++) {
+            five[i / 4] = five[i / 4] << 8 | (from + i < text.length() ? text.charAt(from + i) & 255 : ' ');
+        }
+        return five;
+    }
+
+    /** The seed of a day DRAWN that becomes this one by so many steps. */
+    static int back(int seed, int steps) {
+        // Newton's steps find what 1103515245 times it is 1 among ints that wrap
+        int inverse = 1103515245;
+        for (int i = 0; i < 5; i++) {
+            inverse *= 2 - 1103515245 * inverse;
+        }
+        int back = seed;
+        for (int i = 0; i < steps; i++) {
+            back = (back - 12345) * inverse;
+        }
+        return back;
     }
 
     static GateBox made(String text) {
@@ -109,14 +133,6 @@ final class Check {
             seen.append(" coin ").append(x.coin(gate, 2, 0)).append(" ").append(x.coin(gate, 2, 1));
         }
         return seen.toString();
-    }
-
-    private static int four(String text, int from) {
-        int four = 0;
-        for (int i = from; i < from + 4; i++) {
-            four = four << 8 | (i < text.length() ? text.charAt(i) & 255 : ' ');
-        }
-        return four;
     }
 
     private static String told(long answer) {

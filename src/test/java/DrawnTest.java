@@ -25,8 +25,7 @@ final class DrawnTest {
             int state = x.about(0, 13);
             int gift = x.gives(0, sort, state);
             // one person by the seed ahead of this draw
-            int back = (seed - 12345) * inverse();
-            Check.due("person " + k, x.drawn(0, 1, back), Math.max(gift, 0));
+            Check.due("person " + k, x.drawn(0, 1, Check.back(seed, 1)), Math.max(gift, 0));
             if (gift >= 0) {
                 Check.due("the gift of " + k, x.given(0, gifts, 0), gift);
                 gifts++;
@@ -49,16 +48,6 @@ final class DrawnTest {
         Check.due("due gifts", x.gives(0, 1, 0), due[1]);
         Check.due("due gifts", x.gives(0, 2, 0), due[2]);
         Check.due("nothing was stolen", x.about(0, 12), 0);
-    }
-
-    /** The inverse of 1103515245 among ints that wrap, by Newton's steps. */
-    private static int inverse() {
-        int a = 1103515245;
-        int b = a;
-        for (int i = 0; i < 5; i++) {
-            b *= 2 - a * b;
-        }
-        return b;
     }
 
     private static void fullBook() {

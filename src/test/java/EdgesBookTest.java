@@ -1,8 +1,5 @@
 /** The sentences of the document's part 4 that name an edge: BOOKS, GUESSES, days DRAWN, the thief, STATUS, IMAGES. */
 final class EdgesBookTest {
-    /** What 1103515245 times it is 1 among ints that wrap. */
-    private static final int BACK = inverse();
-
     public static void main(String[] args) {
         twoHundredGifts();
         fromTheSeedOn();
@@ -376,7 +373,7 @@ final class EdgesBookTest {
     /** One person by the seed behind which comes this one: what he gives is the number of his sort. */
     private static void drawnBy(int behind, int sort) {
         GateBox x = Check.made(sort(99, "0") + sort(99, "1") + sort(99, "2") + sort(99, "3") + sort(99, "4") + sort(99, "5") + sort(99, "6") + sort(99, "7"));
-        Check.due("a seed that becomes " + Integer.toHexString(behind), x.drawn(0, 1, back(behind, 1)), sort);
+        Check.due("a seed that becomes " + Integer.toHexString(behind), x.drawn(0, 1, Check.back(behind, 1)), sort);
     }
 
     private static void firstSortThatIsMore() {
@@ -385,7 +382,7 @@ final class EdgesBookTest {
         int[] draws = {0, 1, 2, 3, 4, 5, 6, 7, 99, 100, 102, 199};
         int[] due = {1, 2, 2, 3, 3, 3, 4, 4, 4, 1, 2, 4};
         for (int i = 0; i < draws.length; i++) {
-            Check.due("a draw of " + draws[i], x.drawn(0, 1, back(draws[i] << 16, 1)), due[i]);
+            Check.due("a draw of " + draws[i], x.drawn(0, 1, Check.back(draws[i] << 16, 1)), due[i]);
         }
     }
 
@@ -463,7 +460,7 @@ final class EdgesBookTest {
         int[] stolen = {0, 30, 0, 30, 30, 0, 30, 0, 30};
         for (int i = 0; i < draws.length; i++) {
             GateBox x = Check.made(sort(1, "3") + "thief " + chances[i] + " 30;");
-            x.drawn(0, 10, back(draws[i] << 16, 11));
+            x.drawn(0, 10, Check.back(draws[i] << 16, 11));
             Check.due("a draw of " + draws[i] + ", chance " + chances[i], x.about(0, 12), stolen[i]);
             Check.due("what is left", x.about(0, 11), 30 - stolen[i]);
         }
@@ -473,8 +470,8 @@ final class EdgesBookTest {
         Check.sentence("if the BOX has BOUND or more, a DRAW of 100");
         // the eleventh person is drawn by the eleventh draw, by the twelfth if the thief took one
         String sorts = sort(1, "1") + sort(99, "9");
-        int seed = back(0, 12);
-        Check.due("the eleventh draw isn't of the first sort", (back(0, 1) >>> 16 & 32767) % 100 > 0, true);
+        int seed = Check.back(0, 12);
+        Check.due("the eleventh draw isn't of the first sort", (Check.back(0, 1) >>> 16 & 32767) % 100 > 0, true);
         GateBox x = Check.made(sorts + "thief 0 10;");
         x.drawn(0, 11, seed);
         Check.due("bound 10: the twelfth draw", x.given(0, 10, 0), 1);
@@ -594,23 +591,6 @@ final class EdgesBookTest {
         Check.due("the tape stays", x.count(0), 20);
         Check.due("the place of the fault stays", x.fault(), 0);
         Check.due("status is as it was", x.count(1), 0);
-    }
-
-    /** The seed that becomes this one by so many steps. */
-    private static int back(int seed, int steps) {
-        int back = seed;
-        for (int i = 0; i < steps; i++) {
-            back = (back - 12345) * BACK;
-        }
-        return back;
-    }
-
-    private static int inverse() {
-        int inverse = 1103515245;
-        for (int i = 0; i < 5; i++) {
-            inverse *= 2 - 1103515245 * inverse;
-        }
-        return inverse;
     }
 
     private static String sort(int odds, String expr) {

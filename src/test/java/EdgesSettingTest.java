@@ -374,18 +374,22 @@ final class EdgesSettingTest {
 
     private static void manyCouples() {
         Check.sentence("CASES by STATES of both (10,000 at most), both SEEDS, parts by ODDS of GATE 0");
-        String eight = sort("0") + sort("1") + sort("2") + sort("3") + sort("4") + sort("5") + sort("6") + sort("7+2*(mean=last)");
-        GateBox x = Check.made(eight + "sight 2;glass;");
-        Check.gate(x, 1, sort("last*7/3-mean") + sort("9-last") + sort("mean+1") + sort("8") + sort("5-mean") + sort("last+mean") + sort("last/2")
-                + sort("1") + "sight 2;glass;");
-        x.seed(0, 99);
-        x.seed(1, 88);
+        String[] texts = {
+            sort("0") + sort("1") + sort("2") + sort("3") + sort("4") + sort("5") + sort("6") + sort("7+2*(mean=last)") + "sight 2;glass;",
+            sort("last*7/3-mean") + sort("9-last") + sort("mean+1") + sort("8") + sort("5-mean") + sort("last+mean") + sort("last/2") + sort("1")
+                + "sight 2;glass;"};
+        GateBox x = new GateBox();
         Model m = new Model();
-        tell(m, 0, eight + "sight 2;glass;");
-        tell(m, 1, sort("last*7/3-mean") + sort("9-last") + sort("mean+1") + sort("8") + sort("5-mean") + sort("last+mean") + sort("last/2")
-                + sort("1") + "sight 2;glass;");
-        m.seed(0, 99);
-        m.seed(1, 88);
+        for (int gate = 0; gate < 2; gate++) {
+            Check.due("gate " + gate, Check.gate(x, gate, texts[gate]), 0);
+            for (int i = 0; i < texts[gate].length(); i += 20) {
+                int[] f = Check.five(texts[gate], i);
+                m.feed(f[0], f[1], f[2], f[3], f[4]);
+            }
+            m.gate(gate, texts[gate].length());
+            x.seed(gate, 99 - 11 * gate);
+            m.seed(gate, 99 - 11 * gate);
+        }
         for (int n : new int[] {0, 1, 2, 3, 10, 60}) {
             Check.due("near(" + n + ", 0)", x.near(n, 0), m.near(n, 0));
             Check.due("near(" + n + ", 1)", x.near(n, 1), m.near(n, 1));
@@ -414,17 +418,6 @@ final class EdgesSettingTest {
         GateBox z = Check.made("sort 1 worth 9 purse 9 gives 1;sort 3 worth 9 purse 9 gives 0;");
         Check.gate(z, 1, "sort 99 worth 9 purse 9 gives 0;sort 1 worth 9 purse 9 gives 4;");
         Check.due("three quarters of 4", z.near(1, 1), 3000);
-    }
-
-    private static void tell(Model m, int gate, String text) {
-        for (int i = 0; i < text.length(); i += 20) {
-            int[] f = new int[5];
-            for (int j = 0; j < 20; j++) {
-                f[j / 4] = f[j / 4] << 8 | (i + j < text.length() ? text.charAt(i + j) : ' ');
-            }
-            m.feed(f[0], f[1], f[2], f[3], f[4]);
-        }
-        Check.due("the model has no fault", m.gate(gate, text.length()), 0);
     }
 
     private static void nearCoin() {

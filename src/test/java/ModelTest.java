@@ -65,10 +65,7 @@ final class ModelTest {
         }
         Check.feed(x, text);
         for (int i = 0; i < text.length(); i += 20) {
-            int[] f = new int[5];
-            for (int j = 0; j < 20; j++) {
-                f[j / 4] = f[j / 4] << 8 | (i + j < text.length() ? text.charAt(i + j) : ' ');
-            }
+            int[] f = Check.five(text, i);
             model.feed(f[0], f[1], f[2], f[3], f[4]);
         }
         compare("text " + text, "gate", new Object[] {gate, text.length()});
